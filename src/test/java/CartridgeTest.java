@@ -197,6 +197,14 @@ public final class CartridgeTest {
         CHECK.due("0xC001 leaves the line", console.core(8), 2);
         console.reset();
         CHECK.due("reset leaves the line", console.core(8), 2);
+        console.write(0x2001, 0x10);
+        console.write(0xE000, 0);
+        nextLine(console);
+        CHECK.due("told, but interrupts are off", console.core(8), 0);
+        console.write(0xE001, 0);
+        CHECK.due("on at the next line only", console.core(8), 0);
+        nextLine(console);
+        CHECK.due("told, and interrupts are on", console.core(8), 2);
         GameConsole mmc1 = new GameConsole(Rig.MMC1);
         mmc1.write(0x2001, 0x18);
         mmc1.pass(30000);

@@ -60,6 +60,8 @@ public final class OpcodesTest {
         check.due(name + ": length", console.core(5) - Rig.START, length);
         boolean indexed = mode.equals("abx") || mode.equals("aby") || mode.equals("izy");
         if (indexed) {
+            GameConsole near = prepared(opcode, 0x41);
+            check.due(name + " within a page: cycles", near.step(), cycles(mode, use, false));
             GameConsole crossing = prepared(opcode, 0xFF);
             check.due(name + " crossing: cycles", crossing.step(), cycles(mode, use, true));
             check.due(name + " crossing: length", crossing.core(5) - Rig.START, length);
@@ -103,6 +105,7 @@ public final class OpcodesTest {
                 branch(name, 0x0280, BRANCHES[i], flags, 0xF0, taken ? 3 : 2, taken ? 0x0272 : 0x0282);
             }
             int on = i % 2 == 1 ? 0xFF : 0;
+            branch("from an odd address", 0x0281, BRANCHES[i], on, 0x10, 3, 0x0293);
             branch("up a page", 0x0280, BRANCHES[i], on, 0x7F, 4, 0x0301);
             branch("to the page's end", 0x0280, BRANCHES[i], on, 0x7D, 3, 0x02FF);
             branch("down a page", 0x0270, BRANCHES[i], on, 0x80, 4, 0x01F2);

@@ -90,6 +90,15 @@ public final class PassTest {
         check.due("VBLANK at dot 0", third.picture(6), 0);
         third.pass(1);
         check.due("VBLANK at dot 3", third.picture(6), 1);
+        GameConsole told = new GameConsole(Rig.MMC3);
+        told.write(0xC000, 9);
+        told.pass(100);
+        told.write(0x2001, 8);
+        told.pass(100);
+        check.due("at dot 259", told.picture(9), 259);
+        check.due("line 1 is not yet told", told.cartridge(13), 0);
+        told.pass(1);
+        check.due("line 1 is told", told.cartridge(13), 9);
     }
 
     private static void toldLines(Check check) {

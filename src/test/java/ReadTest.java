@@ -31,10 +31,10 @@ public final class ReadTest {
     private static void cartridge() {
         GameConsole console = new GameConsole(Rig.MMC1);
         for (int i = 0; i < 256; i++) {
-            console.write(0x6000 + i, 255 - i);
+            console.write(0x6000 + i, i ^ 0x5A);
         }
         for (int address = 0x6000; address < 0x8000; address++) {
-            CHECK.due("own RAM " + address, console.read(address), 255 - address % 256);
+            CHECK.due("own RAM " + address, console.read(address), address % 256 ^ 0x5A);
         }
         for (int i = 0; i < 512; i++) {
             console.rom(i, i / 64 * 16 + i % 16);
@@ -48,6 +48,10 @@ public final class ReadTest {
 
     private static void notNamed() {
         GameConsole console = new GameConsole(Rig.MMC3);
+        console.write(0x0000, 0xFF);
+        console.write(0x07FF, 0xFF);
+        console.write(0x6000, 0xFF);
+        console.write(0x60FF, 0xFF);
         for (int address = 0x2000; address < 0x6000; address++) {
             if (address != 0x4014) {
                 console.write(address, 0xFF);
@@ -136,6 +140,11 @@ public final class ReadTest {
         CHECK.due("the palette's byte itself, all its bits", console.read(0x2007), 0xC5);
         CHECK.due("the name table below it in the buffer", console.picture(10), 81);
         CHECK.due("V", console.picture(0), 0x3F06);
+        Rig.pictureAddress(console, 0x3F00);
+        console.write(0x2007, 0x44);
+        Rig.pictureAddress(console, 0x3F00);
+        CHECK.due("the palette's first", console.read(0x2007), 0x44);
+        CHECK.due("the name table below its first", console.picture(10), 0);
         Rig.pictureAddress(console, 0x3FE5);
         CHECK.due("the palette again", console.read(0x2007), 0xC5);
         CHECK.due("another place of the table", console.picture(10), 0);

@@ -215,7 +215,7 @@ public final class StepTest {
         CHECK.due("(zp),Y: the pointer's high byte is at 0", console.core(0), 77);
         CHECK.due("abs,X from the last page crosses", console.step(), 5);
         CHECK.due("abs,X goes on at 0", console.core(0), 88);
-        console.step();
+        CHECK.due("a page crossed before costs nothing", console.step(), 6);
         CHECK.due("(zp,X) itself wraps", console.core(0), 99);
         GameConsole end = new GameConsole(Rig.MMC3);
         Rig.vectors(end, 0, 0xFFFF, 0);

@@ -28,6 +28,10 @@ public final class WriteTest {
         console.write(0x7FFF, 0x377);
         CHECK.due("the cartridge's own RAM", console.read(0x60FF), 0x77);
         CHECK.due("no time goes by", console.core(6), 0);
+        console.write(0x1FFF, 0x66);
+        CHECK.due("the RAM's last address", console.read(0x07FF), 0x66);
+        console.write(0x3FFF, 0);
+        CHECK.due("the picture unit's last address is register 7", console.picture(0), 1);
     }
 
     private static void whatCannotBeWritten() {
@@ -115,6 +119,20 @@ public final class WriteTest {
         mixed.write(0x2006, 0xFF);
         mixed.write(0x2005, 0xFF);
         CHECK.due("6, then 5", mixed.picture(1), 0x7FE0);
+        mixed.write(0x2005, 0xFF);
+        mixed.write(0x2005, 0xFF);
+        CHECK.due("T full", mixed.picture(1), 0x7FFF);
+        mixed.write(0x2005, 0x00);
+        CHECK.due("the lowest five bits are 0", mixed.picture(1), 0x7FE0);
+        CHECK.due("X is 0", mixed.picture(2), 0);
+        mixed.write(0x2005, 0x00);
+        CHECK.due("the bits of the second are 0", mixed.picture(1), 0x0C00);
+        mixed.write(0x2005, 0x00);
+        mixed.write(0x2005, 0xFF);
+        mixed.write(0x2006, 0x00);
+        CHECK.due("bits 8 .. 14 are 0", mixed.picture(1), 0x00E0);
+        mixed.write(0x2006, 0x01);
+        CHECK.due("the lowest eight bits", mixed.picture(1), 0x0001);
     }
 
     private static void data() {
@@ -128,6 +146,7 @@ public final class WriteTest {
         console.write(0x2007, 44);
         console.write(0x2007, 45);
         CHECK.due("the last of CHR", console.memory(0x1FFF), 0);
+        CHECK.due("no name table's place", console.memory(0x23FF), 0);
         CHECK.due("the first of the name tables", console.memory(0x2000), 45);
         CHECK.due("the buffer stays", console.picture(10), 0);
         console.write(0x2000, 4);
