@@ -118,8 +118,8 @@ public final class CartridgeTest {
             }
         }
         GameConsole console = mmc3With(0x40, 0, 0, 0, 0, 0, 0, 5, 4);
-        for (int i = 0; i < 512; i++) {
-            console.rom(i, i / 64 + 50);
+        for (int bank = 0; bank < 8; bank++) {
+            console.rom(bank * 64 + 63, bank + 50);
         }
         int[] due = {56, 54, 55, 57};
         for (int slot = 0; slot < 4; slot++) {
@@ -140,8 +140,9 @@ public final class CartridgeTest {
     }
 
     private static void mmc3Mirroring() {
-        GameConsole console = new GameConsole(Rig.MMC3);
         for (int value = 0; value < 256; value++) {
+            GameConsole console = new GameConsole(Rig.MMC3);
+            console.write(0xA000, value + 1);
             console.write(0xA000 + 2 * value, value);
             CHECK.due("mirroring by " + value, console.cartridge(12), 2 + value % 2);
             console.write(0xA001 + 2 * value, value + 1);

@@ -3,6 +3,23 @@ final class Check {
     private static final int MOST_PRINTED = 40;
     private int looked;
     private int wrong;
+    private String sentence = "";
+    private int sentences;
+    private int lookedBefore;
+
+    /** The words of the document for which the answers from here on stand. */
+    void sentence(String words) {
+        endSentence();
+        sentence = words;
+        sentences++;
+        lookedBefore = looked;
+    }
+
+    private void endSentence() {
+        if (sentences > 0 && looked == lookedBefore) {
+            tell("no answer was looked at");
+        }
+    }
 
     void due(String what, long got, long want) {
         looked++;
@@ -25,14 +42,25 @@ final class Check {
         }
     }
 
+    /** Two looks at one console must show the same. */
+    void dueSame(String what, int[] before, int[] now) {
+        for (int i = 0; i < Look.SIZE; i++) {
+            due(what + " leaves " + Look.name(i), now[i], before[i]);
+        }
+    }
+
     private void tell(String text) {
         wrong++;
         if (wrong <= MOST_PRINTED) {
-            System.out.println(text);
+            System.out.println(sentence.isEmpty() ? text : "'" + sentence + "': " + text);
         }
     }
 
     void finish() {
+        endSentence();
+        if (sentences > 0) {
+            System.out.print(sentences + " sentences, ");
+        }
         System.out.println(looked + " answers, " + wrong + " of them wrong");
         if (wrong != 0 || looked == 0) {
             System.exit(1);

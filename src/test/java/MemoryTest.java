@@ -1,5 +1,8 @@
 /** Promise 13: memory. */
 public final class MemoryTest {
+    /** So many of a half at a time, that an object gets no more than its 512 calls. */
+    private static final int PLACES = 16;
+
     public static void main(String[] args) {
         Check check = new Check();
         for (int mirroring = 0; mirroring < 4; mirroring++) {
@@ -18,26 +21,51 @@ public final class MemoryTest {
 
     /** Both halves are filled while bit 10 tells them apart; then each mirroring shows its own. */
     private static void nameTables(Check check, int mirroring) {
+        for (int from = 0; from < 1024; from += PLACES) {
+            GameConsole console = new GameConsole(Rig.MMC1);
+            Rig.shift(console, 0x8000, 0b01110);
+            fillHalf(console, 0, from);
+            fillHalf(console, 1, from);
+            Rig.shift(console, 0x8000, 0b01100 | mirroring);
+            for (int address = 0x2000 + from; address < 0x3F00; address += 1024) {
+                int half = half(mirroring, address / 1024 % 4);
+                shown(check, console, "mirroring " + mirroring + ", memory ", address, half);
+            }
+        }
+        written(check, mirroring);
+    }
+
+    private static int filled(int half, int place) {
+        return place * 5 + place / 256 + half * 131 & 0xFF;
+    }
+
+    private static void fillHalf(GameConsole console, int half, int from) {
+        Rig.pictureAddress(console, 0x2000 + half * 1024 + from);
+        for (int place = from; place < from + PLACES; place++) {
+            console.write(0x2007, filled(half, place));
+        }
+    }
+
+    private static void shown(Check check, GameConsole console, String name, int from, int half) {
+        for (int address = from; address < from + PLACES && address < 0x3F00; address++) {
+            int due = filled(half, address % 1024);
+            check.due(name + address, console.memory(address), due);
+            check.due(name + address + " and bits above", console.memory(address | 0xFFFFC000), due);
+        }
+    }
+
+    private static void written(Check check, int mirroring) {
         GameConsole console = new GameConsole(Rig.MMC1);
         Rig.shift(console, 0x8000, 0b01110);
-        Rig.pictureAddress(console, 0x2000);
-        for (int i = 0; i < 2048; i++) {
-            console.write(0x2007, i * 5 + i / 1024 * 3);
-        }
+        fillHalf(console, 0, 0);
+        fillHalf(console, 1, 0);
         Rig.shift(console, 0x8000, 0b01100 | mirroring);
-        for (int address = 0x2000; address < 0x3F00; address++) {
-            int i = half(mirroring, address / 1024 % 4) * 1024 + address % 1024;
-            String name = "mirroring " + mirroring + ", memory " + address;
-            check.due(name, console.memory(address), i * 5 + i / 1024 * 3 & 0xFF);
-            check.due(name + " and bits above", console.memory(address | 0xFFFFC000), i * 5 + i / 1024 * 3 & 0xFF);
-        }
         Rig.pictureAddress(console, 0x2C07);
         console.write(0x2007, 0xEE);
         for (int table = 0; table < 4; table++) {
-            boolean same = half(mirroring, table) == half(mirroring, 3);
-            int other = (half(mirroring, table) * 1024 + 7) * 5 + half(mirroring, table) * 3 & 0xFF;
-            check.due("mirroring " + mirroring + ", written, table " + table, console.memory(0x2007 + 1024 * table),
-                same ? 0xEE : other);
+            int half = half(mirroring, table);
+            int due = half == half(mirroring, 3) ? 0xEE : filled(half, 7);
+            check.due("mirroring " + mirroring + ", written, table " + table, console.memory(0x2007 + 1024 * table), due);
         }
     }
 
@@ -64,7 +92,7 @@ public final class MemoryTest {
         console.write(0x2007, 7);
         Rig.pictureAddress(console, 0x2222);
         console.write(0x2005, 1);
-        for (int address = 0; address < 0x4000; address += 13) {
+        for (int address = 0; address < 0x4000; address += 41) {
             console.memory(address);
         }
         check.due("V", console.picture(0), 0x2222);
@@ -77,8 +105,9 @@ public final class MemoryTest {
 
     private static void chrBanks(Check check) {
         GameConsole console = new GameConsole(Rig.MMC3);
-        for (int i = 0; i < 128; i++) {
-            console.chr(i, i + 100);
+        for (int bank = 0; bank < 8; bank++) {
+            console.chr(bank * 16, bank + 100);
+            console.chr(bank * 16 + 15, bank + 200);
         }
         int[] registers = {2, 5, 7, 1, 0, 3};
         for (int i = 0; i < 6; i++) {
@@ -86,9 +115,12 @@ public final class MemoryTest {
             console.write(0x8001, registers[i]);
         }
         int[] banks = {2, 3, 4, 5, 7, 1, 0, 3};
-        for (int address = 0; address < 0x2000; address++) {
-            int i = banks[address / 1024] * 16 + address % 16;
-            check.due("CHR " + address, console.memory(address), i + 100 & 0xFF);
+        for (int slot = 0; slot < 8; slot++) {
+            int from = slot * 1024;
+            check.due("CHR " + from, console.memory(from), banks[slot] + 100);
+            check.due("CHR " + (from + 15), console.memory(from + 15), banks[slot] + 200);
+            check.due("CHR " + (from + 1008), console.memory(from + 1008), banks[slot] + 100);
+            check.due("CHR " + (from + 1023), console.memory(from + 1023), banks[slot] + 200);
         }
     }
 }

@@ -10,8 +10,8 @@ public final class PadTest {
     }
 
     private static void everyButton(Check check) {
-        GameConsole console = new GameConsole(Rig.MMC1);
         for (int buttons = 0; buttons < 256; buttons++) {
+            GameConsole console = new GameConsole(Rig.MMC1);
             console.pad(0, buttons);
             console.pad(1, buttons ^ 0x5A | 0x7F00);
             console.write(0x4016, 1);

@@ -18,57 +18,80 @@ public final class ReadTest {
     }
 
     private static void ram() {
-        GameConsole console = new GameConsole(Rig.MMC1);
-        for (int i = 0; i < 2048; i++) {
-            console.write(i, i * 3 + i / 256);
-        }
-        for (int address = 0; address < 0x2000; address++) {
-            int i = address % 2048;
-            CHECK.due("RAM " + address, console.read(address), i * 3 + i / 256 & 0xFF);
+        for (int from = 0; from < 2048; from += 64) {
+            GameConsole console = new GameConsole(Rig.MMC1);
+            for (int i = from; i < from + 64; i++) {
+                console.write(i, i * 3 + i / 256);
+            }
+            for (int i = from; i < from + 64; i++) {
+                for (int address = i; address < 0x2000; address += 2048) {
+                    CHECK.due("RAM " + address, console.read(address), i * 3 + i / 256 & 0xFF);
+                }
+            }
         }
     }
 
     private static void cartridge() {
-        GameConsole console = new GameConsole(Rig.MMC1);
-        for (int i = 0; i < 256; i++) {
-            console.write(0x6000 + i, i ^ 0x5A);
+        for (int from = 0; from < 256; from += 8) {
+            GameConsole console = new GameConsole(Rig.MMC1);
+            for (int i = from; i < from + 8; i++) {
+                console.write(0x6000 + i, i ^ 0x5A);
+            }
+            for (int i = from; i < from + 8; i++) {
+                for (int address = 0x6000 + i; address < 0x8000; address += 256) {
+                    CHECK.due("own RAM " + address, console.read(address), i ^ 0x5A);
+                }
+            }
         }
-        for (int address = 0x6000; address < 0x8000; address++) {
-            CHECK.due("own RAM " + address, console.read(address), address % 256 ^ 0x5A);
+        for (int place = 0; place < 64; place++) {
+            for (int slot = 0; slot < 4; slot++) {
+                romAgainAndAgain(place, slot);
+            }
         }
-        for (int i = 0; i < 512; i++) {
-            console.rom(i, i / 64 * 16 + i % 16);
-        }
+    }
+
+    private static void romAgainAndAgain(int place, int slot) {
         int[] banks = {0, 1, 6, 7};
-        for (int address = 0x8000; address < 0x10000; address++) {
-            int due = banks[address / 8192 - 4] * 16 + address % 16;
-            CHECK.due("ROM " + address, console.read(address), due);
+        GameConsole console = new GameConsole(Rig.MMC1);
+        for (int bank = 0; bank < 8; bank++) {
+            console.rom(bank * 64 + place, bank * 16 + 1);
+        }
+        int from = 0x8000 + slot * 0x2000;
+        for (int address = from + place; address < from + 0x2000; address += 64) {
+            CHECK.due("ROM " + address, console.read(address), banks[slot] * 16 + 1);
         }
     }
 
     private static void notNamed() {
         GameConsole console = new GameConsole(Rig.MMC3);
-        console.write(0x0000, 0xFF);
-        console.write(0x07FF, 0xFF);
-        console.write(0x6000, 0xFF);
-        console.write(0x60FF, 0xFF);
-        for (int address = 0x2000; address < 0x6000; address++) {
-            if (address != 0x4014) {
-                console.write(address, 0xFF);
-            }
+        int[] all = {0x0000, 0x07FF, 0x2000, 0x2001, 0x2003, 0x2004, 0x2005, 0x2006, 0x2007, 0x6000, 0x60FF};
+        for (int address : all) {
+            console.write(address, 0xFF);
         }
-        console.write(0x4014, 0);
-        console.read(0x2002);
         int[] registers = {0, 1, 3, 5, 6};
-        for (int page = 0x2000; page < 0x4000; page += 8) {
+        for (int page = 0x2000; page < 0x4000; page += 8 * 13) {
             for (int register : registers) {
                 CHECK.due("register " + (page + register), console.read(page + register), 0);
             }
         }
-        for (int address = 0x4000; address < 0x6000; address++) {
-            if (address < 0x4015 || address > 0x4017) {
+        for (int address = 0x4000; address < 0x4018; address++) {
+            if (address != 0x4014) {
+                console.write(address, 0xFF);
+            }
+            if (address < 0x4015) {
                 CHECK.due("not named " + address, console.read(address), 0);
             }
+        }
+        for (int from = 0x4018; from < 0x6000; from += 200) {
+            notNamedFrom(from);
+        }
+    }
+
+    private static void notNamedFrom(int from) {
+        GameConsole console = new GameConsole(Rig.MMC3);
+        for (int address = from; address < from + 200 && address < 0x6000; address++) {
+            console.write(address, 0xFF);
+            CHECK.due("not named " + address, console.read(address), 0);
         }
     }
 
@@ -169,19 +192,13 @@ public final class ReadTest {
         CHECK.due("V goes on behind 14 bits", console.picture(0), 0x4000);
         Rig.pictureAddress(console, 0x2345);
         console.write(0x2007, 61);
-        vOf15Bits(console, 0x2345);
-        console.write(0x2000, 0);
+        Rig.wideAddress(console, 0x6345);
         console.read(0x2007);
         CHECK.due("only 14 bits are an address", console.picture(10), 61);
-    }
-
-    /** Bit 14 of V comes from growing alone: 0x2006 makes it 0, so V grows from below to a name table. */
-    private static void vOf15Bits(GameConsole console, int address) {
-        Rig.pictureAddress(console, 0x3FE0 | address & 0x1F);
-        console.write(0x2000, 4);
-        while (console.picture(0) != (0x4000 | address)) {
-            console.read(0x2007);
-        }
+        CHECK.due("V keeps its bit 14", console.picture(0), 0x6346);
+        Rig.wideAddress(console, 0x7FFF);
+        console.read(0x2007);
+        CHECK.due("V wraps behind 15 bits", console.picture(0), 0);
     }
 
     private static void soundStatus() {
@@ -210,7 +227,7 @@ public final class ReadTest {
 
     private static void noTime() {
         GameConsole console = new GameConsole(Rig.MMC3);
-        for (int address = 0; address < 0x10000; address += 0x7F) {
+        for (int address = 0; address < 0x10000; address += 0x81) {
             console.read(address);
         }
         CHECK.due("no cycle", console.core(6), 0);

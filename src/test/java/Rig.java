@@ -39,6 +39,29 @@ final class Rig {
         return console;
     }
 
+    /** A console of which hardly anything that can be seen is 0: VBLANK is 1, NMI and IRQ wait, W is 1. */
+    static GameConsole busy(int kind) {
+        GameConsole console = with(kind, 0xA9, 0x80, 0xA2, 5, 0xA0, 7, 0x48, 0x38, 0xE8, 0xC8, 0x4C, 0x08, 0x02);
+        console.run(5);
+        pictureAddress(console, 0x2123);
+        console.write(0x2007, 0x5A);
+        pictureAddress(console, 0x2123);
+        console.read(0x2007);
+        console.write(0x2003, 0x33);
+        console.write(0x2001, 0x1E);
+        console.write(0xC000, 6);
+        console.write(0xE001, 0);
+        console.write(0x4015, 15);
+        for (int channel = 0; channel < 4; channel++) {
+            console.write(0x4003 + 4 * channel, 8);
+        }
+        console.write(0x2000, 0x80);
+        console.write(0x2005, 0x7D);
+        console.pass(30000);
+        console.pass(27500);
+        return console;
+    }
+
     /** Goes on to a line and a dot that lie at a number of dots from the beginning that 3 divides. */
     static void passTo(GameConsole console, int line, int dot) {
         int now = console.picture(8) * 341 + console.picture(9);
@@ -62,5 +85,15 @@ final class Rig {
         console.read(0x2002);
         console.write(0x2006, address >> 8);
         console.write(0x2006, address & 0xFF);
+    }
+
+    /** V with its bit 14 too, which the first 0x2006 would make 0: T is built by 0x2000 and 0x2005 instead. */
+    static void wideAddress(GameConsole console, int v) {
+        console.read(0x2002);
+        console.write(0x2000, console.picture(4) & 0xFC | v >> 10 & 3);
+        console.write(0x2005, 0);
+        console.write(0x2005, v >> 12 & 7 | (v >> 5 & 31) << 3);
+        console.write(0x2005, 0);
+        console.write(0x2006, v & 0xFF);
     }
 }

@@ -8,23 +8,31 @@ public final class RomTest {
         check.finish();
     }
 
+    private static int filled(int bank, int place) {
+        return (bank * 64 + place) * 7 + bank & 0xFF;
+    }
+
+    /** One bank is filled, and of the others what lies at the same places as its first and last. */
     private static void everyPlace(Check check) {
-        GameConsole console = new GameConsole(Rig.MMC3);
-        for (int at = 0; at < 512; at++) {
-            console.rom(at, at * 7 + at / 64);
-        }
         for (int bank = 0; bank < 8; bank++) {
+            GameConsole console = new GameConsole(Rig.MMC3);
+            for (int place = 0; place < 64; place++) {
+                console.rom(bank * 64 + place, filled(bank, place));
+            }
+            for (int other = 0; other < 8; other++) {
+                console.rom(other * 64, filled(other, 0));
+                console.rom(other * 64 + 63, filled(other, 63));
+            }
             console.write(0x8000, 6);
             console.write(0x8001, bank);
             for (int place = 0; place < 64; place++) {
-                int due = (bank * 64 + place) * 7 + bank & 0xFF;
+                int due = filled(bank, place);
                 check.due("bank " + bank + " place " + place, console.read(0x8000 + place), due);
                 check.due("bank " + bank + " again at " + place, console.read(0x9FC0 + place), due);
             }
-        }
-        for (int place = 0; place < 64; place++) {
-            check.due("the last place " + place, console.read(0xFFC0 + place), (448 + place) * 7 + 7 & 0xFF);
-            check.due("the bank before it " + place, console.read(0xC040 + place), (384 + place) * 7 + 6 & 0xFF);
+            check.due("the last place", console.read(0xFFFF), filled(7, 63));
+            check.due("the last bank's first place", console.read(0xE000), filled(7, 0));
+            check.due("the last place but one bank", console.read(0xDFFF), filled(6, 63));
         }
     }
 
@@ -43,8 +51,11 @@ public final class RomTest {
         for (int at : wrong) {
             check.dueThrow("rom " + at, IllegalArgumentException.class, () -> console.rom(at, 1));
         }
-        for (int address = 0x8000; address < 0x10000; address++) {
-            check.due("nothing was put at " + address, console.read(address), 0);
+        for (int slot = 0; slot < 4; slot++) {
+            for (int place = 0; place < 64; place++) {
+                int address = 0x8000 + 0x2000 * slot + place;
+                check.due("nothing was put at " + address, console.read(address), 0);
+            }
         }
         console.rom(0, 9);
         console.rom(511, 8);
