@@ -170,6 +170,10 @@ public final class BusEdgesTest {
         CHECK.sentence("What is not named is read as 0");
         for (int kind = 0; kind < 2; kind++) {
             GameConsole console = Rig.busy(kind);
+            int[] full = {0x0000, 0x0001, 0x0003, 0x07FF, 0x6000, 0x60FF};
+            for (int address : full) {
+                console.write(address, 0xFF);
+            }
             int[] registers = {0x2000, 0x2001, 0x2003, 0x2005, 0x2006, 0x3FFD, 0x3FFE};
             int[] before = Look.at(console);
             for (int address : registers) {

@@ -84,13 +84,14 @@ public final class CartridgeEdgesTest {
             for (int value : values) {
                 for (int count = 0; count < 5; count++) {
                     GameConsole console = new GameConsole(Rig.MMC1);
-                    Rig.shift(console, 0xE000, 2);
+                    Rig.shift(console, 0xE000, 1);
                     Rig.shift(console, 0x8000, 0b10001);
+                    shown("PRG mode 0 before", console, 0, 0, 1, 2, 3);
                     for (int i = 0; i < count; i++) {
                         console.write(0x8000, 1);
                     }
                     console.write(address, value);
-                    shown("PRG mode 3 by " + value + " at " + address, console, 0, 4, 5, 6, 7);
+                    shown("PRG mode 3 by " + value + " at " + address, console, 0, 2, 3, 6, 7);
                     CHECK.due("mirroring stays", console.cartridge(12), 1);
                     for (int i = 0; i < 4; i++) {
                         console.write(0x8000, 0);

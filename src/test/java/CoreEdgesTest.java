@@ -9,6 +9,10 @@ public final class CoreEdgesTest {
     public static void main(String[] args) {
         registersAreBytes();
         memoryBytesWrap();
+        carry();
+        comparing();
+        shifting();
+        bitTest();
         stackWrapsDown();
         stackWrapsUp();
         pcWraps();
@@ -23,6 +27,7 @@ public final class CoreEdgesTest {
         addressesWrap();
         pagesCrossed();
         pagesCrossedByOthers();
+        pageCrossedBefore();
         branchTaken();
         branchToAnotherPage();
         decimalMeansNothing();
@@ -96,6 +101,87 @@ public final class CoreEdgesTest {
             console.step();
             CHECK.due("the byte from " + from[i], console.read(0x10), to[i]);
             CHECK.due("P from " + from[i], console.core(4), p[i]);
+        }
+    }
+
+    private static void pBehind(String name, int a, int p, int due, int... program) {
+        GameConsole console = loaded(a, 0x80, 0x7F, p, program);
+        console.write(0x0010, a);
+        console.step();
+        CHECK.due("P behind " + name, console.core(4), due);
+    }
+
+    private static void carry() {
+        CHECK.sentence("flags: C, V, N and Z at the ends of a byte (ADC, SBC)");
+        pBehind("254 + 1", 254, 0, 0xA0, 0x69, 1);
+        pBehind("254 + 1 + 1", 254, 1, 0x23, 0x69, 1);
+        pBehind("255 + 0", 255, 0, 0xA0, 0x69, 0);
+        pBehind("126 + 1", 126, 0, 0x20, 0x69, 1);
+        pBehind("126 + 1 + 1", 126, 1, 0xE0, 0x69, 1);
+        pBehind("128 + 128", 128, 0, 0x63, 0x69, 128);
+        pBehind("128 + 255", 128, 0, 0x61, 0x69, 255);
+        pBehind("127 + 128", 127, 0, 0xA0, 0x69, 128);
+        pBehind("0 - 0", 0, 1, 0x23, 0xE9, 0);
+        pBehind("0 - 0 - 1", 0, 0, 0xA0, 0xE9, 0);
+        pBehind("1 - 1", 1, 1, 0x23, 0xE9, 1);
+        pBehind("0 - 1", 0, 1, 0xA0, 0xE9, 1);
+        pBehind("127 - 255", 127, 1, 0xE0, 0xE9, 255);
+        pBehind("128 - 1", 128, 1, 0x61, 0xE9, 1);
+        pBehind("128 - 0 - 1", 128, 0, 0x61, 0xE9, 0);
+    }
+
+    private static void comparing() {
+        CHECK.sentence("flags: C, N and Z of a comparison (CMP, CPX, CPY)");
+        pBehind("CMP equal", 5, 0, 0x23, 0xC9, 5);
+        pBehind("CMP one less", 5, 0, 0x21, 0xC9, 4);
+        pBehind("CMP one more", 5, 1, 0xA0, 0xC9, 6);
+        pBehind("CMP 0 and 255", 0, 1, 0x20, 0xC9, 255);
+        pBehind("CMP 255 and 0", 255, 0, 0xA1, 0xC9, 0);
+        pBehind("CMP leaves V", 5, 64, 0x63, 0xC9, 5);
+        pBehind("CPX equal", 0, 0, 0x23, 0xE0, 0x80);
+        pBehind("CPX one less", 0, 0, 0x21, 0xE0, 0x7F);
+        pBehind("CPX one more", 0, 1, 0xA0, 0xE0, 0x81);
+        pBehind("CPY equal", 0, 0, 0x23, 0xC0, 0x7F);
+        pBehind("CPY one less", 0, 0, 0x21, 0xC0, 0x7E);
+        pBehind("CPY one more", 0, 1, 0xA0, 0xC0, 0x80);
+    }
+
+    private static void shifting() {
+        CHECK.sentence("flags: what goes out of a byte at its ends (ASL, LSR, ROL, ROR)");
+        int[] onA = {0x0A, 0x4A, 0x2A, 0x6A};
+        int[] onMemory = {0x06, 0x46, 0x26, 0x66};
+        int[] values = {0x00, 0x01, 0x80, 0xFF, 0x7F};
+        for (int i = 0; i < 4; i++) {
+            for (int value : values) {
+                for (int carry = 0; carry < 2; carry++) {
+                    int in = i < 2 ? 0 : carry;
+                    boolean up = i % 2 == 0;
+                    int to = up ? value * 2 % 256 + in : value / 2 + 128 * in;
+                    int p = 32 | (up ? value / 128 : value % 2) | (to == 0 ? 2 : 0) | to & 128;
+                    String name = "shift " + i + " of " + value + " with C " + carry;
+                    pBehind(name + ", A", value, carry, p, onA[i]);
+                    pBehind(name + ", memory", value, carry, p, onMemory[i], 0x10);
+                    GameConsole console = loaded(value, 0, 0, carry, onA[i]);
+                    console.step();
+                    CHECK.due("A behind " + name, console.core(0), to);
+                }
+            }
+        }
+    }
+
+    private static void bitTest() {
+        CHECK.sentence("flags: N and V of BIT are the byte's own");
+        int[] values = {0x00, 0x3F, 0x40, 0x80, 0xC0, 0xFF};
+        for (int value : values) {
+            GameConsole none = loaded(0x00, 0, 0, 0xC1, 0x24, 0x10);
+            none.write(0x0010, value);
+            none.step();
+            CHECK.due("P of " + value + " with A 0", none.core(4), 0x23 | value & 0xC0);
+            GameConsole all = loaded(0xFF, 0, 0, 0x03, 0x2C, 0x10, 0x00);
+            all.write(0x0010, value);
+            all.step();
+            CHECK.due("P of " + value + " with A 255", all.core(4), 0x21 | value & 0xC0 | (value == 0 ? 2 : 0));
+            CHECK.due("A stays", all.core(0), 0xFF);
         }
     }
 
@@ -452,6 +538,17 @@ public final class CoreEdgesTest {
             for (int opcode : CHANGES_BY_X) {
                 cyclesBy("change abs,X", opcode, low, 1, 7);
             }
+        }
+    }
+
+    private static void pageCrossedBefore() {
+        CHECK.sentence("one more for a page crossed by an indexed read (that one alone)");
+        int[] opcodes = {0xA9, 0xA5, 0xAD, 0xB5, 0xA1, 0x69, 0x25, 0x2C};
+        int[] cycles = {2, 3, 4, 4, 6, 2, 3, 4};
+        for (int i = 0; i < opcodes.length; i++) {
+            GameConsole console = loaded(0, 1, 1, 0, 0xBD, 0xFF, 0x04, opcodes[i], 0x10, 0x04);
+            CHECK.due("crossing", console.step(), 5);
+            CHECK.due("then " + opcodes[i], console.step(), cycles[i]);
         }
     }
 
