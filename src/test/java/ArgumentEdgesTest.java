@@ -28,7 +28,11 @@ public final class ArgumentEdgesTest {
         padRefusals();
         memoryAddresses();
         memoryDisturbsNothing();
-        looksDisturbNothing();
+        coreRefusals();
+        pictureRefusals();
+        oamRefusals();
+        cartridgeRefusals();
+        soundRefusals();
         CHECK.finish();
     }
 
@@ -392,20 +396,31 @@ public final class ArgumentEdgesTest {
         }
     }
 
-    /** 'IndexOutOfBoundsException for others', said of core, picture, cartridge and sound; of oam with its bounds. */
-    private static void looksDisturbNothing() {
+    private static void coreRefusals() {
         CHECK.sentence("core: IndexOutOfBoundsException for others (than 0 .. 8).");
         refused("core", IndexOutOfBoundsException.class, (console, what) -> console.core(what),
             -1, 9, 10, -9, 256, 0x10000, Integer.MIN_VALUE, Integer.MAX_VALUE);
+    }
+
+    private static void pictureRefusals() {
         CHECK.sentence("picture: IndexOutOfBoundsException for others (than 0 .. 10).");
         refused("picture", IndexOutOfBoundsException.class, (console, what) -> console.picture(what),
             -1, 11, 12, -11, 256, 0x10000, Integer.MIN_VALUE, Integer.MAX_VALUE);
+    }
+
+    private static void oamRefusals() {
         CHECK.sentence("oam: IndexOutOfBoundsException if it is not 0 .. 255.");
         refused("oam", IndexOutOfBoundsException.class, (console, at) -> console.oam(at),
             -1, 256, 257, -256, 511, 0x10000, Integer.MIN_VALUE, Integer.MAX_VALUE);
+    }
+
+    private static void cartridgeRefusals() {
         CHECK.sentence("cartridge: IndexOutOfBoundsException for others (than 0 .. 13).");
         refused("cartridge", IndexOutOfBoundsException.class, (console, what) -> console.cartridge(what),
             -1, 14, 15, -14, 256, 0x10000, Integer.MIN_VALUE, Integer.MAX_VALUE);
+    }
+
+    private static void soundRefusals() {
         CHECK.sentence("sound: IndexOutOfBoundsException for others (than 0 .. 4).");
         refused("sound", IndexOutOfBoundsException.class, (console, what) -> console.sound(what),
             -1, 5, 6, -5, 256, 0x10000, Integer.MIN_VALUE, Integer.MAX_VALUE);
