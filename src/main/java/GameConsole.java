@@ -58,6 +58,7 @@ public final class GameConsole {
             return -1;
         }
         int cycles = 0;
+        // Written out as in step(), because a call of it would make the calls nine deep.
         for (int done = 0; done < steps; done++) {
             cycles += settle(core.takeStep(picture.takeNmi(), irqLines() != 0));
         }
